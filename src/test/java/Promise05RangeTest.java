@@ -22,7 +22,7 @@ public final class Promise05RangeTest {
         Check.refuses("street -1", Check.ARGUMENT, () -> x.range(-1, 0, 1, 2));
         Check.refuses("street 1", Check.ARGUMENT, () -> x.range(1, 9, 0, 0));
         for (int side : new int[] {LEAST, -1, 3, GREATEST}) {
-            Check.refuses("side " + side, Check.INDEX, () -> x.range(0, side, 1, 2));
+            Check.refuses("side " + side, Check.INDEX, () -> x.range(0, side, 1, 9));
         }
         for (int house : new int[] {LEAST, -1, 0, 10000, GREATEST}) {
             Check.refuses("low " + house, Check.INDEX, () -> x.range(0, 2, house, 9));

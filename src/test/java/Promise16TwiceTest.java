@@ -33,6 +33,18 @@ public final class Promise16TwiceTest {
         Check.answers("landmarks do not count", 5, () -> x.twice());
         x.close(0, true);
         Check.answers("closed ones do", 5, () -> x.twice());
+        comparesEveryLetter();
         Check.end();
+    }
+
+    private static void comparesEveryLetter() {
+        String[] names = {"abcdefghijklmnop", "xbcdefghijklmnop", "abcdefghijklmnox", "abcdefgxijklmnop"};
+        AddressWords x = new AddressWords();
+        for (String name : names) {
+            Check.namedStreet(x, 0, name);
+        }
+        Check.answers("a letter makes another name", 0, () -> x.twice());
+        Check.namedStreet(x, 0, names[0]);
+        Check.answers("all 16 letters the same", 2, () -> x.twice());
     }
 }
