@@ -1,9 +1,13 @@
 import java.util.Random;
 
-/** Long runs of calls, the same ones each time, are compared with the slow model call by call. */
+/**
+ * Long runs of calls, the same ones each time, are compared with the slow model call by call. A step
+ * makes one call or more, so runs go beyond the 512 calls that the document promises: the class
+ * counts no calls, and full tables are reached this way.
+ */
 public final class ModelTest {
     private static final int RUNS = 150;
-    private static final int CALLS = 512;
+    private static final int STEPS = 512;
 
     private final Random random;
     private final AddressWords x = new AddressWords();
@@ -21,8 +25,8 @@ public final class ModelTest {
     public static void main(String[] args) {
         for (int run = 0; run < RUNS; run++) {
             ModelTest test = new ModelTest(run);
-            for (int call = 0; call < CALLS; call++) {
-                test.call("run " + run + " call " + call + ": ");
+            for (int step = 0; step < STEPS; step++) {
+                test.call("run " + run + " step " + step + ": ");
             }
         }
         Check.end();
