@@ -7,10 +7,29 @@ final class Check {
     static final Class<?> STATE = IllegalStateException.class;
     static final Class<?> ROOM = UnsupportedOperationException.class;
 
+    private static String sentence = "";
+    private static int checksOfSentence = 0;
+    private static int sentences = 0;
     private static int checks = 0;
     private static int wrong = 0;
 
     private Check() {
+    }
+
+    /** The checks that follow stand for these words of the document, up to the next ones. */
+    static void sentence(String promise, String words) {
+        endSentence();
+        sentence = promise + ", \"" + words + "\": ";
+        checksOfSentence = 0;
+        sentences++;
+    }
+
+    /** A sentence without a check would look as if it held. */
+    private static void endSentence() {
+        if (sentences > 0 && checksOfSentence == 0) {
+            wrong++;
+            System.out.println(sentence + "nothing was checked");
+        }
     }
 
     static void answers(String call, int due, IntSupplier made) {
@@ -32,9 +51,10 @@ final class Check {
 
     static void same(String what, String due, String got) {
         checks++;
+        checksOfSentence++;
         if (!due.equals(got)) {
             wrong++;
-            System.out.println(what + " answered " + got + ", due is " + due);
+            System.out.println(sentence + what + " answered " + got + ", due is " + due);
         }
     }
 
@@ -56,10 +76,17 @@ final class Check {
     }
 
     static void end() {
-        System.out.println(checks + " checks, " + wrong + " wrong");
+        endSentence();
+        System.out.println(sentences + " sentences, " + checks + " checks, " + wrong + " wrong");
         if (wrong != 0 || checks == 0) {
             System.exit(1);
         }
+    }
+
+    /** Numbers outside of a range: next to it, far off, and such as a byte or a short would wrap into it. */
+    static int[] outside(int low, int high) {
+        return new int[] {Integer.MIN_VALUE, Integer.MIN_VALUE + high, low - 65536, low - 256, low - 1,
+            high + 1, high + 256, high + 65536, Integer.MAX_VALUE};
     }
 
     /** The signs of a text as the lowest bytes of a long, the first sign the highest. */
@@ -69,6 +96,19 @@ final class Check {
             packed = packed << 8 | text.charAt(i);
         }
         return packed;
+    }
+
+    /** Eight bytes b, with one other byte at a place counted from the lowest. */
+    static long packedWith(int sign, int at) {
+        return pack("bbbbbbbb") & ~(255L << 8 * at) | (long) sign << 8 * at;
+    }
+
+    static AddressWords withStreets(int count) {
+        AddressWords x = new AddressWords();
+        for (int i = 0; i < count; i++) {
+            x.street(0);
+        }
+        return x;
     }
 
     static int sign(AddressWords x, int street, String letters) {
@@ -84,6 +124,11 @@ final class Check {
         for (int at = 0; at < letters.length(); at += 8) {
             sign(x, street, letters.substring(at, Math.min(at + 8, letters.length())));
         }
+    }
+
+    static void alias(AddressWords x, int street, String letters) {
+        x.alias(street);
+        name(x, street, letters);
     }
 
     static int namedStreet(AddressWords x, int area, String letters) {
@@ -112,5 +157,25 @@ final class Check {
             told.append(what == 0 ? "" : " ").append(outcome(() -> x.place(i, asked)));
         }
         return told.toString();
+    }
+
+    /** Says the signs and finds as many places as are due. */
+    static void tells(AddressWords x, String signs, String... due) {
+        say(x, signs);
+        x.find(due.length);
+        for (int i = 0; i < due.length; i++) {
+            same("place " + i + " of \"" + signs + "\"", due[i], place(x, i));
+        }
+    }
+
+    /** What is told of the nearest place of the signs: 3 is the distance, 1 the house. */
+    static void nearest(AddressWords x, String signs, int what, int due) {
+        say(x, signs);
+        x.find(1);
+        answers("place(0, " + what + ") of \"" + signs + "\"", due, () -> x.place(0, what));
+    }
+
+    static int point(int x, int y) {
+        return 20000 * (x + 10000) + y + 10000;
     }
 }

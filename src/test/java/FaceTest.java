@@ -27,6 +27,7 @@ public final class FaceTest {
     };
 
     public static void main(String[] args) {
+        Check.sentence("The public face", "public final class AddressWords");
         Class<?> face = AddressWords.class;
         Check.same("the class", "public final", Modifier.toString(face.getModifiers()));
         Check.same("constructors", "1", String.valueOf(face.getDeclaredConstructors().length));
